@@ -408,9 +408,9 @@ public final class PostingPlanner {
             this.tally = tally;
         }
 
-        void make(int code, Shelf shelf, long allThere) {
+        void make(int code, long allTruths, long allThere) {
             there = allThere;
-            truths = shelf.truthsOf(code);
+            truths = allTruths;
             rank = code;
             estimate = Long.bitCount(truths);
             place = NONE;
@@ -716,7 +716,7 @@ public final class PostingPlanner {
                 int code = told.isNegated ? contraryOf(told.codes[i]) : told.codes[i];
                 // A SOME counts a literal as often as it was told.
                 if (literals[i] != null && (kind == SOME || !hasRank(code))) {
-                    literals[i].make(code, shelf, allThere);
+                    literals[i].make(code, shelf.truthsOf(code), allThere);
                     keep(literals[i]);
                 }
             }
@@ -790,13 +790,11 @@ public final class PostingPlanner {
         final Tally tally;
         private final Plan plan;
         boolean isBegun;
-        private boolean isEnded;
         private int given;
 
         Run() {
             tally = new Tally();
             plan = new Plan(tally);
-            given = NONE;
         }
 
         /** Answers the estimate of the plan. */
@@ -804,16 +802,15 @@ public final class PostingPlanner {
             plan.make(question, shelf);
             tally.sum = 0;
             isBegun = true;
-            isEnded = false;
             given = NONE;
             return plan.estimate;
         }
 
         int advance(int document) {
             int wanted = Math.max(document, given + 1);
-            int found = isEnded || wanted >= END ? END : plan.seek(wanted, 0);
+            // A plan whose place is the end stays there, so once there is none, this stays so.
+            int found = wanted >= END ? END : plan.seek(wanted, 0);
             if (found >= END) {
-                isEnded = true;
                 return NONE;
             }
             given = found;
