@@ -27,18 +27,9 @@ public final class PlanTest {
         CHECKS.end();
     }
 
-    /** Ten documents, 0 to 9: the word w is had by the first w + 1 of them, so it is true of w + 1. */
-    private static PostingPlanner ten() {
-        PostingPlanner planner = new PostingPlanner();
-        for (int document = 0; document < 10; document++) {
-            planner.put(document, document < 8 ? 255 << document & 255 : 0);
-        }
-        return planner;
-    }
-
     /** The plan of a question ALL of one clause. */
     private static String planOf(int kind, int need, boolean isNegated, int... literals) {
-        PostingPlanner planner = ten();
+        PostingPlanner planner = Samples.ten();
         Checks.clause(planner, kind, need, isNegated, literals);
         return Checks.plan(planner);
     }
@@ -89,21 +80,8 @@ public final class PlanTest {
         CHECKS.same("not ANY without literals", planOf(ANY, 0, true), "ALWAYS/0~10[]");
     }
 
-    /** A clause for each sign: A is ALWAYS, N is NEVER, a digit is that word. */
     private static PostingPlanner asked(int kind, int need, String clauses) {
-        PostingPlanner planner = ten();
-        planner.ask(kind, need);
-        for (int i = 0; i < clauses.length(); i++) {
-            char sign = clauses.charAt(i);
-            if (sign == 'A') {
-                Checks.clause(planner, ALL, 0, false);
-            } else if (sign == 'N') {
-                Checks.clause(planner, ANY, 0, false);
-            } else {
-                Checks.clause(planner, ANY, 0, false, sign - '0');
-            }
-        }
-        return planner;
+        return Samples.asked(Samples.ten(), kind, need, clauses);
     }
 
     private static String planOfClauses(int kind, int need, String clauses) {
@@ -259,7 +237,7 @@ public final class PlanTest {
 
     private static void kindAt() {
         CHECKS.promise(16, "kindAt");
-        PostingPlanner planner = ten();
+        PostingPlanner planner = Samples.ten();
         planner.ask(ANY, 0);
         Checks.clause(planner, ALL, 0, false, 1, 2);
         Checks.clause(planner, ALL, 0, true, 1, 2);
@@ -275,7 +253,7 @@ public final class PlanTest {
 
     private static void estimateAt() {
         CHECKS.promise(17, "estimateAt");
-        PostingPlanner planner = ten();
+        PostingPlanner planner = Samples.ten();
         planner.ask(ANY, 0);
         Checks.clause(planner, ALL, 0, false, 3, 1);
         Checks.clause(planner, ANY, 0, false, 3, 1);
@@ -289,7 +267,7 @@ public final class PlanTest {
 
     private static void literalAt() {
         CHECKS.promise(18, "literalAt");
-        PostingPlanner planner = ten();
+        PostingPlanner planner = Samples.ten();
         planner.ask(ALL, 0);
         Checks.clause(planner, ANY, 0, false, 7, -8 + 1, 7, 0, -1 - 3);
         Checks.clause(planner, ALL, 0, false, 6, -2, 2);
@@ -306,7 +284,7 @@ public final class PlanTest {
         CHECKS.throwsArgument("literalAt(0, 3)", () -> planner.literalAt(0, 3));
         CHECKS.throwsArgument("literalAt(2, 0)", () -> planner.literalAt(2, 0));
         CHECKS.throwsArgument("literalAt(-1, 9)", () -> planner.literalAt(-1, 9));
-        PostingPlanner full = ten();
+        PostingPlanner full = Samples.ten();
         Checks.clause(full, SOME, 2, false, 1, 1, 1, 1, 1, -8);
         CHECKS.same("literalAt(0, 5)", full.literalAt(0, 5), 15);
         CHECKS.throwsArgument("literalAt(0, 6)", () -> full.literalAt(0, 6));
@@ -315,7 +293,7 @@ public final class PlanTest {
 
     private static void planIsMadeNow() {
         CHECKS.topic("the plan, as it would be made now");
-        PostingPlanner planner = ten();
+        PostingPlanner planner = Samples.ten();
         Checks.clause(planner, ALL, 0, false, 1);
         Checks.clause(planner, ALL, 0, false, 2);
         CHECKS.same("at first", Checks.plan(planner), "ALL/0~2[0:ALL~2(1) 1:ALL~3(2)]");

@@ -111,16 +111,6 @@ public final class QuestionTest {
         return planner;
     }
 
-    private static String matching(PostingPlanner planner) {
-        StringBuilder matching = new StringBuilder();
-        for (int document = 0; document < 40; document++) {
-            if (planner.matches(document)) {
-                matching.append(matching.length() == 0 ? "" : " ").append(document);
-            }
-        }
-        return matching.toString();
-    }
-
     private static void oneClause(String due, int kind, int need, boolean isNegated, int... literals) {
         PostingPlanner planner = eight();
         Checks.clause(planner, kind, need, isNegated, literals);
@@ -128,7 +118,7 @@ public final class QuestionTest {
         for (int literal : literals) {
             what.append(' ').append(literal);
         }
-        CHECKS.same(what.toString(), matching(planner), due);
+        CHECKS.same(what.toString(), Checks.matching(planner), due);
     }
 
     private static void matches() {
@@ -165,7 +155,7 @@ public final class QuestionTest {
         planner.drop(4);
         planner.put(2, 1);
         planner.put(39, 6);
-        CHECKS.same("matching after changes", matching(planner), "0 6 39");
+        CHECKS.same("matching after changes", Checks.matching(planner), "0 6 39");
         CHECKS.throwsIndex("matches(-1)", () -> planner.matches(-1));
         CHECKS.throwsIndex("matches(40)", () -> planner.matches(40));
         CHECKS.throwsIndex("matches(most)", () -> planner.matches(Integer.MAX_VALUE));
@@ -178,7 +168,7 @@ public final class QuestionTest {
         planner.ask(kind, need);
         Checks.clause(planner, ALL, 0, false, 0);
         Checks.clause(planner, ALL, 0, true, -2);
-        CHECKS.same("matching two clauses, question of kind " + kind + " need " + need, matching(planner), due);
+        CHECKS.same("matching two clauses, question of kind " + kind + " need " + need, Checks.matching(planner), due);
     }
 
     private static void hits() {

@@ -21,36 +21,10 @@ public final class RunTest {
         CHECKS.end();
     }
 
-    /** Ten documents, 0 to 9: the word w is had by 0 to w. */
-    private static PostingPlanner ten() {
-        PostingPlanner planner = new PostingPlanner();
-        for (int document = 0; document < 10; document++) {
-            planner.put(document, document < 8 ? 255 << document & 255 : 0);
-        }
-        return planner;
-    }
-
     private static PostingPlanner tenAsked(int kind, int need, int... literals) {
-        PostingPlanner planner = ten();
+        PostingPlanner planner = Samples.ten();
         Checks.clause(planner, kind, need, false, literals);
         return planner;
-    }
-
-    /** Every document the run still gives, each with the readings until then: DOCUMENT/READINGS. */
-    private static String rest(PostingPlanner planner) {
-        StringBuilder rest = new StringBuilder();
-        for (int i = 0; i < 41; i++) {
-            int document = planner.next();
-            rest.append(i == 0 ? "" : " ").append(document).append('/').append(planner.readings());
-            if (document == NONE) {
-                return rest.toString();
-            }
-        }
-        return rest.append(" too many").toString();
-    }
-
-    private static String wholeRun(PostingPlanner planner) {
-        return planner.begin() + ": " + rest(planner);
     }
 
     private static void begin() {
@@ -82,15 +56,15 @@ public final class RunTest {
         planner.literal(0, 7, true);
         planner.clause(ANY, 0, false);
         CHECKS.same("the plan that would be made now", planner.planKind(), PostingPlanner.NEVER);
-        CHECKS.same("the run", rest(planner), "2/5 3/7 -1/8");
-        CHECKS.same("a run after that", wholeRun(planner), "0: -1/0");
+        CHECKS.same("the run", Checks.rest(planner), "2/5 3/7 -1/8");
+        CHECKS.same("a run after that", Checks.wholeRun(planner), "0: -1/0");
         PostingPlanner always = new PostingPlanner();
         always.put(5, 0);
         always.begin();
         always.put(6, 0);
         always.drop(5);
         always.ask(SOME, 3);
-        CHECKS.same("the run of ALWAYS", rest(always), "5/0 -1/0");
+        CHECKS.same("the run of ALWAYS", Checks.rest(always), "5/0 -1/0");
     }
 
     private static void leap() {
@@ -121,7 +95,7 @@ public final class RunTest {
         CHECKS.throwsIndex("leap(40)", () -> planner.leap(40));
         CHECKS.throwsIndex("leap(least)", () -> planner.leap(Integer.MIN_VALUE));
         CHECKS.throwsIndex("leap(most)", () -> planner.leap(Integer.MAX_VALUE));
-        CHECKS.same("after throws", rest(planner), "4/3 5/4 6/5 -1/6");
+        CHECKS.same("after throws", Checks.rest(planner), "4/3 5/4 6/5 -1/6");
     }
 
     private static void next() {
@@ -161,8 +135,8 @@ public final class RunTest {
         planner.next();
         planner.next();
         CHECKS.same("readings() once there is none", planner.readings(), 2);
-        CHECKS.same("of ALWAYS", wholeRun(tenAsked(ALL, 0)), "10: 0/0 1/0 2/0 3/0 4/0 5/0 6/0 7/0 8/0 9/0 -1/0");
-        CHECKS.same("of NEVER", wholeRun(tenAsked(ANY, 0)), "0: -1/0");
+        CHECKS.same("of ALWAYS", Checks.wholeRun(tenAsked(ALL, 0)), "10: 0/0 1/0 2/0 3/0 4/0 5/0 6/0 7/0 8/0 9/0 -1/0");
+        CHECKS.same("of NEVER", Checks.wholeRun(tenAsked(ANY, 0)), "0: -1/0");
         planner.ask(ALL, 0);
         planner.drop(0);
         planner.drop(1);
@@ -174,16 +148,16 @@ public final class RunTest {
 
     private static void readingsOfLiterals() {
         CHECKS.promise(22, "readings of literals");
-        CHECKS.same("a word", wholeRun(tenAsked(ANY, 0, 1)), "2: 0/1 1/2 -1/3");
-        CHECKS.same("a word that none has", wholeRun(new Builder().doc(3, 2).asked(ANY, 0)), "0: -1/1");
-        CHECKS.same("a negated word", wholeRun(tenAsked(ANY, 0, -8)), "2: 8/9 9/10 -1/11");
+        CHECKS.same("a word", Checks.wholeRun(tenAsked(ANY, 0, 1)), "2: 0/1 1/2 -1/3");
+        CHECKS.same("a word that none has", Checks.wholeRun(new Builder().doc(3, 2).asked(ANY, 0)), "0: -1/1");
+        CHECKS.same("a negated word", Checks.wholeRun(tenAsked(ANY, 0, -8)), "2: 8/9 9/10 -1/11");
         PostingPlanner gaps = new PostingPlanner();
         gaps.put(4, 1);
         gaps.put(10, 1);
         gaps.put(20, 0);
         gaps.put(30, 1);
         Checks.clause(gaps, ANY, 0, false, -1);
-        CHECKS.same("a negated word, with gaps", wholeRun(gaps), "1: 20/3 -1/5");
+        CHECKS.same("a negated word, with gaps", Checks.wholeRun(gaps), "1: 20/3 -1/5");
         gaps.begin();
         CHECKS.same("leap(10)", gaps.leap(10), 20);
         CHECKS.same("readings from 10 to 20", gaps.readings(), 2);
@@ -191,23 +165,23 @@ public final class RunTest {
         CHECKS.same("readings from 31 to the end", gaps.readings(), 3);
         PostingPlanner none = new PostingPlanner();
         Checks.clause(none, ANY, 0, false, -1);
-        CHECKS.same("a negated word, without documents", wholeRun(none), "0: -1/1");
+        CHECKS.same("a negated word, without documents", Checks.wholeRun(none), "0: -1/1");
     }
 
     private static void readingsOfAll() {
         CHECKS.promise(22, "readings of ALL");
-        CHECKS.same("a word, a negated one", wholeRun(tenAsked(ALL, 0, 1, -1)), "2: 1/4 -1/5");
+        CHECKS.same("a word, a negated one", Checks.wholeRun(tenAsked(ALL, 0, 1, -1)), "2: 1/4 -1/5");
         CHECKS.same("ends as soon as one part is at the end",
-                wholeRun(new Builder().doc(3, 1).doc(5, 2).asked(ALL, 0, 1)), "1: -1/3");
+                Checks.wholeRun(new Builder().doc(3, 1).doc(5, 2).asked(ALL, 0, 1)), "1: -1/3");
         CHECKS.same("begins again with the first part",
-                wholeRun(new Builder().doc(0, 1).doc(1, 6).doc(2, 1).doc(3, 7).doc(4, 6).doc(5, 6).asked(ALL, 0, 1, 2)),
+                Checks.wholeRun(new Builder().doc(0, 1).doc(1, 6).doc(2, 1).doc(3, 7).doc(4, 6).doc(5, 6).asked(ALL, 0, 1, 2)),
                 "3: 3/6 -1/7");
     }
 
     private static void readingsOfAny() {
         CHECKS.promise(22, "readings of ANY");
-        CHECKS.same("all parts are sought", wholeRun(tenAsked(ANY, 0, 0, 2)), "4: 0/2 1/4 2/5 -1/6");
-        CHECKS.same("a part ahead is not", wholeRun(new Builder().doc(1, 1).doc(2, 1).doc(9, 2).asked(ANY, 0, 1)),
+        CHECKS.same("all parts are sought", Checks.wholeRun(tenAsked(ANY, 0, 0, 2)), "4: 0/2 1/4 2/5 -1/6");
+        CHECKS.same("a part ahead is not", Checks.wholeRun(new Builder().doc(1, 1).doc(2, 1).doc(9, 2).asked(ANY, 0, 1)),
                 "3: 1/2 2/3 9/4 -1/5");
     }
 
@@ -220,25 +194,25 @@ public final class RunTest {
         planner.put(6, 4);
         planner.put(8, 6);
         Checks.clause(planner, SOME, 2, false, 0, 1, 2);
-        CHECKS.same("2 of 3", wholeRun(planner), "3: 4/5 8/8 -1/10");
+        CHECKS.same("2 of 3", Checks.wholeRun(planner), "3: 4/5 8/8 -1/10");
         PostingPlanner twice = new PostingPlanner();
         twice.put(1, 1);
         twice.put(3, 3);
         Checks.clause(twice, SOME, 2, false, 0, 0, 1);
-        CHECKS.same("a literal twice is read twice", wholeRun(twice), "2: 1/3 3/5 -1/8");
+        CHECKS.same("a literal twice is read twice", Checks.wholeRun(twice), "2: 1/3 3/5 -1/8");
     }
 
     private static void readingsOfNested() {
         CHECKS.promise(22, "readings of clauses in a question");
-        PostingPlanner planner = ten();
+        PostingPlanner planner = Samples.ten();
         planner.ask(ALL, 0);
         Checks.clause(planner, ANY, 0, false, 3, 4);
         Checks.clause(planner, ALL, 0, false, 3, -3);
-        CHECKS.same("ALL of an ALL and an ANY", wholeRun(planner), "4: 3/8 -1/9");
+        CHECKS.same("ALL of an ALL and an ANY", Checks.wholeRun(planner), "4: 3/8 -1/9");
         planner.ask(SOME, 1);
         Checks.clause(planner, ALL, 0, false, 0, 1);
         Checks.clause(planner, ALL, 0, false, 9 - 2);
-        CHECKS.same("ANY of two ALL", wholeRun(planner), "9: 0/3 1/5 2/6 3/7 4/8 5/9 6/10 7/11 -1/12");
+        CHECKS.same("ANY of two ALL", Checks.wholeRun(planner), "9: 0/3 1/5 2/6 3/7 4/8 5/9 6/10 7/11 -1/12");
     }
 
     private static void withoutRun() {
@@ -254,7 +228,7 @@ public final class RunTest {
         CHECKS.same("after throws", Checks.picture(planner), before);
         CHECKS.throwsState("still no run", () -> planner.next());
         planner.begin();
-        CHECKS.same("a run", rest(planner), "0/1 1/2 2/3 -1/4");
+        CHECKS.same("a run", Checks.rest(planner), "0/1 1/2 2/3 -1/4");
     }
 
     /** Documents in a row, then a question of one clause. */

@@ -1,3 +1,6 @@
+import java.util.function.Consumer;
+import java.util.function.IntSupplier;
+
 /** Counts the checks of one test, prints those that fail, and ends the test. */
 final class Checks {
     /** A call that is due to throw. */
@@ -20,6 +23,10 @@ final class Checks {
 
     void topic(String name) {
         promise = name;
+    }
+
+    int done() {
+        return done;
     }
 
     void same(String what, long got, long due) {
@@ -50,6 +57,27 @@ final class Checks {
         same(what, thrownBy(call), "IllegalStateException");
     }
 
+    /** A refused call throws just this, and leaves each of these objects like one that was not called so. */
+    void refused(String what, String due, Consumer<PostingPlanner> call, Samples.Sample... samples) {
+        for (Samples.Sample sample : samples) {
+            PostingPlanner called = sample.made.get();
+            same(what + " of " + sample.name, thrownBy(() -> call.accept(called)), due);
+            same(what + ", what it leaves of " + sample.name, whole(called), whole(sample.made.get()));
+        }
+    }
+
+    void refusedIndex(String what, Consumer<PostingPlanner> call, Samples.Sample... samples) {
+        refused(what, "IndexOutOfBoundsException", call, samples);
+    }
+
+    void refusedArgument(String what, Consumer<PostingPlanner> call, Samples.Sample... samples) {
+        refused(what, "IllegalArgumentException", call, samples);
+    }
+
+    void refusedState(String what, Consumer<PostingPlanner> call, Samples.Sample... samples) {
+        refused(what, "IllegalStateException", call, samples);
+    }
+
     /** The exact class: what the machine throws is often one below what the document names. */
     private static String thrownBy(Call call) {
         try {
@@ -72,6 +100,57 @@ final class Checks {
             picture.append(planner.matches(document) ? '1' : '0');
         }
         return picture.append(' ').append(plan(planner)).toString();
+    }
+
+    /** All that an object holds, also its run and its question as it was told; the object is spent then. */
+    static String whole(PostingPlanner planner) {
+        StringBuilder whole = new StringBuilder(picture(planner));
+        whole.append(" run ").append(thrownBy(planner::readings).equals("nothing thrown") ? rest(planner) : "none");
+        whole.append(" literals");
+        for (int number = 0; number < 5; number++) {
+            int clause = number;
+            whole.append(' ').append(answer(() -> planner.literal(clause, 7, false)));
+        }
+        whole.append(" clause ").append(answer(() -> planner.clause(PostingPlanner.ANY, 0, false)));
+        whole.append(" then ").append(picture(planner));
+        return whole.append(" clauses ").append(planner.ask(PostingPlanner.ALL, 0)).toString();
+    }
+
+    private static String answer(IntSupplier call) {
+        try {
+            return Integer.toString(call.getAsInt());
+        } catch (RuntimeException thrown) {
+            return thrown.getClass().getSimpleName();
+        }
+    }
+
+    /** What the run gives from now on, each document with the readings until then, as DOCUMENT/READINGS. */
+    static String rest(PostingPlanner planner) {
+        StringBuilder rest = new StringBuilder();
+        for (int i = 0; i < 41; i++) {
+            int document = planner.next();
+            rest.append(i == 0 ? "" : " ").append(document).append('/').append(planner.readings());
+            if (document == PostingPlanner.NONE) {
+                return rest.toString();
+            }
+        }
+        return rest.append(" too many").toString();
+    }
+
+    /** A run from its begin, as ESTIMATE: DOCUMENT/READINGS ... */
+    static String wholeRun(PostingPlanner planner) {
+        return planner.begin() + ": " + rest(planner);
+    }
+
+    /** The documents that match, as DOCUMENT DOCUMENT ... */
+    static String matching(PostingPlanner planner) {
+        StringBuilder matching = new StringBuilder();
+        for (int document = 0; document < 40; document++) {
+            if (planner.matches(document)) {
+                matching.append(matching.length() == 0 ? "" : " ").append(document);
+            }
+        }
+        return matching.toString();
     }
 
     /** The plan, as KIND/NEED~ESTIMATE[NUMBER:KIND~ESTIMATE(LITERAL,LITERAL) ...]. */
