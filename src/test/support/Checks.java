@@ -8,13 +8,30 @@ final class Checks {
         void run();
     }
 
+    /** Far above what the slowest test needs, which is some seconds. */
+    private static final long MOST_MILLISECONDS = 180_000;
+
     private final String test;
     private int done = 0;
     private int wrong = 0;
-    private String promise = "";
+    private volatile String promise = "";
 
     Checks(String test) {
         this.test = test;
+        Thread watch = new Thread(this::endLate);
+        watch.setDaemon(true);
+        watch.start();
+    }
+
+    /** A call that does not end (rule 7 of LANGUAGE.md) is a failure, too, and must not hold up the tests. */
+    private void endLate() {
+        try {
+            Thread.sleep(MOST_MILLISECONDS);
+        } catch (InterruptedException interrupted) {
+            return;
+        }
+        System.out.println(test + ": " + promise + ": a call has not ended, or the test is far too slow");
+        Runtime.getRuntime().halt(1);
     }
 
     void promise(int number, String name) {

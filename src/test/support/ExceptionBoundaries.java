@@ -176,5 +176,24 @@ final class ExceptionBoundaries {
         checks.same("the plan after clause", Checks.plan(planner), "NEVER/0~0[]");
         planner.ask(ALL, 0);
         checks.same("the plan after ask", Checks.plan(planner), "ALWAYS/0~11[]");
+        smallerPlans();
+    }
+
+    /** Nothing of a plan made before comes back in one that has fewer parts, not even in the first call of it. */
+    private void smallerPlans() {
+        PostingPlanner planner = Samples.one(Samples.ten(), ALL, 0, false, 0, 1, 2, 3, 4, 5);
+        checks.same("the last one of six literals", planner.literalAt(0, 5), 10);
+        Samples.one(planner, ALL, 0, false, 7, 6);
+        checks.same("then the first one of two", planner.literalAt(0, 0), 12);
+        checks.throwsArgument("then the third one of two", () -> planner.literalAt(0, 2));
+        Samples.asked(planner, ALL, 0, "01234");
+        checks.same("the last one of five clauses", planner.clauseAt(4), 4);
+        Samples.asked(planner, ALL, 0, "76");
+        checks.same("then the first one of two", planner.clauseAt(0), 1);
+        checks.throwsArgument("then the third one of two", () -> planner.clauseAt(2));
+        Samples.one(planner, ALL, 0, false, 0, 1, 2, 3, 4, 5);
+        checks.same("the run of six literals", Checks.wholeRun(planner), "1: 0/6 -1/7");
+        Samples.one(planner, ALL, 0, false, 2, 1);
+        checks.same("then the run of two", Checks.wholeRun(planner), "2: 0/2 1/4 -1/5");
     }
 }
